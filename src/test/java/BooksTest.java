@@ -9,6 +9,7 @@ final class BooksTest {
         begins();
         ways();
         whence();
+        sixBooks();
         landLater();
         CHECK.end("BooksTest");
     }
@@ -117,6 +118,7 @@ final class BooksTest {
         x.book(46, 0, 1, 0, 999);
         for (int what = 0; what <= 4; what++) due("apart " + what, x.whence(what), NO);
         firstOfSeveral();
+        oneWay();
     }
 
     private static void firstOfSeveral() {
@@ -127,6 +129,31 @@ final class BooksTest {
         due("all sizes", x.whence(2), 99);
         due("begin by the first cell", x.whence(3), 1);
         due("begin by the first cell", x.whence(4), 3);
+    }
+
+    private static void oneWay() {
+        OrphanWave least = withOcean("10000000;" + "00000000;".repeat(5));
+        due("a harbour of depth 1", least.book(0, 7, 7, 0, 3), 0);
+        due("one way: size 1, twice as high", least.ways(0), 1);
+        due("its cell", least.whence(0), 0);
+        due("its least size", least.whence(1), 1);
+        due("its greatest size", least.whence(2), 1);
+        OrphanWave greatest = withOcean(STRAIT);
+        greatest.book(0, 7, 7, 99, 999);
+        due("one way: size 99", greatest.ways(-1), 1);
+        due("its least size", greatest.whence(1), 99);
+        due("its greatest size", greatest.whence(2), 99);
+        due("its begin", greatest.whence(3), 7);
+        due("its begin", greatest.whence(4), 7);
+    }
+
+    private static void sixBooks() {
+        OrphanWave x = withOcean(STRAIT);
+        for (int b = 0; b < 6; b++) x.book(b % 4, 10 * b, 70 - b, b, 90 + b);
+        due("begins 47..58", x.begins(0, 50), 12);
+        due("begins 50..61", x.begins(1, 50), 12);
+        due("begins 47..60", x.begins(2, 50), 14);
+        due("begins 44..57", x.begins(3, 50), 14);
     }
 
     private static void landLater() {

@@ -7,6 +7,7 @@ final class CalendarTest {
     public static void main(String[] args) {
         calendars();
         faults();
+        manyTexts();
         noCalendar();
         clocks();
         told();
@@ -89,6 +90,24 @@ final class CalendarTest {
         due("its years stay", x.count(2), 2);
         due("its months stay", x.clock(1, 12, 29, 0), (354 + 354 + 29) * 1440 - 60);
         due("cleared", x.clear(), text.length());
+    }
+
+    /** Nothing of an earlier text, good or not, is left in a later calendar. */
+    private static void manyTexts() {
+        OrphanWave x = withCalendar(repeat(TWELVE + "30;", 3));
+        Check.type(x, repeat(TWELVE + "30;", 4));
+        due("four years", x.calendar(), 4);
+        Check.type(x, repeat(TWELVE + "30;", 2) + "x");
+        due("no calendar", x.calendar(), -10 - 2 * 39);
+        due("four years still", x.count(2), 4);
+        due("the fourth year", x.clock(3, 12, 0, 0), (3 * 384 + 354) * 1440 - 60);
+        x.clear();
+        Check.type(x, TWELVE + ";");
+        due("one year", x.calendar(), 1);
+        due("no second year", x.clock(1, 0, 0, 0), NO);
+        due("no thirteenth month", x.clock(0, 12, 0, 0), NO);
+        due("the year's end", x.told(354 * 1440 - 61, 1), 11);
+        due("behind it", x.told(354 * 1440 - 60, 1), NO);
     }
 
     private static void noCalendar() {

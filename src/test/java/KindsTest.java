@@ -129,6 +129,34 @@ final class KindsTest {
         due("kept anew", x.keep(1), 1);
         x.back(0);
         due("back to the new one", x.back(1), 1);
+        otherThings();
+    }
+
+    /** Each number of a book and of a known slip comes back, not only how many there are. */
+    private static void otherThings() {
+        OrphanWave x = new OrphanWave();
+        Check.type(x, "00000000;09000000;00000000;00000000;00000000;90000000;");
+        x.ocean();
+        x.keep(1);
+        x.book(9, 10, 20, 30, 40);
+        x.known(100);
+        x.known(200);
+        x.known(500);
+        x.keep(0);
+        x.back(1);
+        x.book(40, -700, 900, 0, 999);
+        x.known(1);
+        x.known(2);
+        x.known(3);
+        x.back(0);
+        due("the whole book", x.ways(9), 11 * 11);
+        due("its cell", x.whence(0), 9);
+        due("its from", x.whence(3), 10);
+        due("its to", x.whence(4), 20);
+        due("its low", x.whence(1), 30);
+        due("its high", x.whence(2), 40);
+        due("the known years", x.even(), 333);
+        due("the last known year", x.known(500), BAD);
     }
 
     private static void imagesKeepNothingElse() {

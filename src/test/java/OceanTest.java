@@ -163,6 +163,8 @@ final class OceanTest {
         due("a row's end is no way to the next row", x.time(23, 24), NONE);
         due("right", x.time(46, 47), 3);
         due("apart", x.time(0, 47), NONE);
+        due("down from the first row", x.time(0, 8), 27);
+        due("up to the first row", x.time(8, 0), 3);
         x.tune(0, 1);
         due("pace 1", x.time(0, 1), 9);
         int[] wrong = {-1, 48, Integer.MIN_VALUE, Integer.MAX_VALUE};
@@ -217,6 +219,7 @@ final class OceanTest {
         due("towards the town", x.minutes(3, 1, 0), 6 + 15);
         due("the sooner of two", x.minutes(3, 1 | 4, 0), 15);
         due("from itself", x.minutes(3, 8, 0), 0);
+        due("a town of depth 1", withOcean("91000000;" + "00000000;".repeat(5)).minutes(1, 1, 0), 27);
         due("cell 24 is the first of the second half", x.minutes(32, 0, 1), 3);
         due("cell 32 in the second half", x.minutes(24, 0, 1 << 8), 3);
         due("land in the set", x.minutes(0, 1 << 5, 0), NONE);

@@ -58,6 +58,7 @@ final class SheetsTest {
         due("apart", x.together(10, 0), NONE);
         due("apart", x.together(10, 1), NONE);
         due("all", x.together(15, 0), NONE);
+        due("from year 0", withSheets(new int[] {0, 0, 0}).together(1, 0), 0);
         due("those not there are left out", x.together(0x10 | 4, 0), 5);
         due("those not there are left out", x.together(Integer.MIN_VALUE | 4, 1), 9999);
         due("none there", x.together(0x10, 0), BAD);
@@ -74,6 +75,8 @@ final class SheetsTest {
         due("one year for all", withSheets(new int[] {0, 0, 5}, new int[] {1, 5, 9}, new int[] {2, 3, 7}).slips(), 1);
         due("two years", withSheets(new int[] {0, 0, 5}, new int[] {1, 6, 9}, new int[] {2, 3, 7}).slips(), 2);
         due("as many as one marsh has", withSheets(new int[] {3, 0, 5}, new int[] {3, 0, 5}, new int[] {3, 1, 7}).slips(), 3);
+        due("as many as the first marsh has", withSheets(new int[] {0, 0, 5}, new int[] {0, 0, 5}, new int[] {1, 1, 7}).slips(), 2);
+        due("as many as the last marsh has", withSheets(new int[] {5, 0, 5}, new int[] {5, 0, 5}, new int[] {1, 1, 7}).slips(), 2);
         due("years are more", withSheets(new int[] {3, 0, 1}, new int[] {3, 0, 1}, new int[] {1, 2, 3},
                 new int[] {2, 4, 5}).slips(), 3);
         due("the last span ends at 9999", withSheets(new int[] {0, 9999, 9999}, new int[] {1, 9998, 9998}).slips(), 2);
@@ -173,6 +176,14 @@ final class SheetsTest {
         fraction(x, 0, 1, 1);
         due("one slip has no gap", withKnown(5).next(5, 0), NO);
         due("no slip has no gap", new OrphanWave().next(5, 0), NO);
+        OrphanWave two = withKnown(0, 10);
+        two.tune(2, 10);
+        fraction(two, 9, 0, 1);
+        fraction(two, 10, 1, 1);
+        OrphanWave sixteen = new OrphanWave();
+        for (int i = 0; i < 16; i++) sixteen.known(i * i);
+        sixteen.tune(2, 225);
+        fraction(sixteen, 5, 1, 5);
         OrphanWave five = withKnown(0, 10, 20, 40, 60);
         five.tune(2, 60);
         fraction(five, 10, 1, 2);
@@ -187,6 +198,7 @@ final class SheetsTest {
         due("no slips", new OrphanWave().even(), NONE);
         due("one slip", withKnown(5).even(), NONE);
         due("one gap", withKnown(5, 9).even(), 1000);
+        due("gaps of a year", withKnown(5, 6, 7).even(), 1000);
         due("1 by 3", withKnown(0, 1, 4).even(), 333);
         due("2 by 3", withKnown(0, 3, 5).even(), 666);
         due("1 by 9998", withKnown(0, 1, 9999).even(), 0);

@@ -100,6 +100,10 @@ final class StoriesTest {
         part(x, 4, 2, 5);
         x = withWeights(0, 0, 0, 0, 0);
         for (int s = 0; s < 5; s++) part(x, s, 0, 1);
+        x = withWeights(1, 0, 0, 0, 0);
+        part(x, 0, 1, 1);
+        x = withWeights(3, 3, 1, 1, 2);
+        part(x, 0, 3, 10);
         x = withWeights(0, 0, 99, 0, 0);
         part(x, 2, 1, 1);
         part(x, 1, 0, 1);
@@ -136,6 +140,9 @@ final class StoriesTest {
         due("greatest behind sand by one, behind none by another", x.dig(), 1);
         x = withWeights(0, 0, 0, 0, 0);
         due("all 0: the first", x.dig(), 0);
+        x = new OrphanWave();
+        chancesAt(x, 1, 0, 0, 0, 0, 0);
+        due("0 and 10, 5 and 5: as much", x.dig(), 0);
         allDug();
         notMadeLeast();
     }
