@@ -18,15 +18,8 @@ final class BooksTest {
         CHECK.due(call, got, want);
     }
 
-    private static OrphanWave withOcean(String text) {
-        OrphanWave x = new OrphanWave();
-        Check.type(x, text);
-        x.ocean();
-        return x;
-    }
-
     private static void books() {
-        OrphanWave x = withOcean(STRAIT);
+        OrphanWave x = Check.withOcean(STRAIT);
         int[][] refused = {{4, 0, 1, 0, 1}, {-1, 0, 1, 0, 1}, {48, 0, 1, 0, 1}, {0, 1, 0, 0, 1}, {0, 0, 1, 1, 0},
             {0, -10000, 1, 0, 1}, {0, 0, 10000, 0, 1}, {0, 0, 1, -1, 1}, {0, 0, 1, 0, 1000},
             {0, Integer.MIN_VALUE, Integer.MAX_VALUE, 0, 1}, {Integer.MAX_VALUE, 0, 1, 0, 1},
@@ -43,7 +36,7 @@ final class BooksTest {
     }
 
     private static void begins() {
-        OrphanWave x = withOcean(STRAIT);
+        OrphanWave x = Check.withOcean(STRAIT);
         due("no books", x.begins(0, 50), NONE);
         due("BAD ahead of NONE", x.begins(4, 50), BAD);
         due("size 0", x.begins(0, 0), BAD);
@@ -67,7 +60,7 @@ final class BooksTest {
 
     /** BEGINS themselves have no bounds: only a book's hours have. */
     private static void wideBegins() {
-        OrphanWave x = withOcean(STRAIT);
+        OrphanWave x = Check.withOcean(STRAIT);
         x.book(3, -9999, 9999, 0, 999);
         due("all hours", x.begins(0, 1), 19999);
         due("earliest", x.whence(3), -9999 - 9);
@@ -77,7 +70,7 @@ final class BooksTest {
     }
 
     private static void ways() {
-        OrphanWave x = withOcean(STRAIT);
+        OrphanWave x = Check.withOcean(STRAIT);
         due("no books, all", x.ways(-1), NONE);
         due("no books, one", x.ways(0), NONE);
         due("BAD ahead of NONE", x.ways(4), BAD);
@@ -101,7 +94,7 @@ final class BooksTest {
     }
 
     private static void whence() {
-        OrphanWave x = withOcean(STRAIT);
+        OrphanWave x = Check.withOcean(STRAIT);
         for (int what = 0; what <= 4; what++) due("no books " + what, x.whence(what), NO);
         x.book(1, 0, 1, 25, 30);
         x.tune(1, 1);
@@ -122,7 +115,7 @@ final class BooksTest {
     }
 
     private static void firstOfSeveral() {
-        OrphanWave x = withOcean(STRAIT);
+        OrphanWave x = Check.withOcean(STRAIT);
         x.book(2, 7, 9, 0, 999);
         due("all have as many", x.whence(0), 0);
         due("all sizes", x.whence(1), 1);
@@ -132,13 +125,13 @@ final class BooksTest {
     }
 
     private static void oneWay() {
-        OrphanWave least = withOcean("10000000;" + "00000000;".repeat(5));
+        OrphanWave least = Check.withOcean("10000000;" + "00000000;".repeat(5));
         due("a harbour of depth 1", least.book(0, 7, 7, 0, 3), 0);
         due("one way: size 1, twice as high", least.ways(0), 1);
         due("its cell", least.whence(0), 0);
         due("its least size", least.whence(1), 1);
         due("its greatest size", least.whence(2), 1);
-        OrphanWave greatest = withOcean(STRAIT);
+        OrphanWave greatest = Check.withOcean(STRAIT);
         greatest.book(0, 7, 7, 99, 999);
         due("one way: size 99", greatest.ways(-1), 1);
         due("its least size", greatest.whence(1), 99);
@@ -148,7 +141,7 @@ final class BooksTest {
     }
 
     private static void sixBooks() {
-        OrphanWave x = withOcean(STRAIT);
+        OrphanWave x = Check.withOcean(STRAIT);
         for (int b = 0; b < 6; b++) x.book(b % 4, 10 * b, 70 - b, b, 90 + b);
         due("begins 47..58", x.begins(0, 50), 12);
         due("begins 50..61", x.begins(1, 50), 12);
@@ -157,7 +150,7 @@ final class BooksTest {
     }
 
     private static void landLater() {
-        OrphanWave x = withOcean(STRAIT);
+        OrphanWave x = Check.withOcean(STRAIT);
         x.book(1, 0, 9, 0, 999);
         Check.type(x, "90990000;00000000;00000000;00000000;00000000;00000099;");
         due("ocean anew", x.ocean(), 5);

@@ -12,6 +12,7 @@ final class CalendarTest {
         clocks();
         told();
         everyHour();
+        longest();
         CHECK.end("CalendarTest");
     }
 
@@ -181,6 +182,15 @@ final class CalendarTest {
             }
         }
         due("behind all", x.told(clock, 0), NO);
+    }
+
+    private static void longest() {
+        OrphanWave x = withCalendar(repeat("30 ".repeat(13) + ";", 8));
+        int end = 8 * 390 * 1440 - 60;
+        tells(x, end - 1, 7, 12, 29, 11);
+        due("the last hour's begin", x.clock(7, 12, 29, 11), end - 120);
+        for (int what = 0; what <= 3; what++) due("behind eight years", x.told(end, what), NO);
+        due("no ninth year", x.clock(8, 0, 0, 0), NO);
     }
 
     private static void tells(OrphanWave x, int minute, int year, int month, int day, int hour) {

@@ -22,4 +22,11 @@ final class Check {
     static void type(OrphanWave x, String text) {
         for (int i = 0; i < text.length(); i++) x.type(text.charAt(i), 1);
     }
+
+    static OrphanWave withOcean(String text) {
+        OrphanWave x = new OrphanWave();
+        type(x, text);
+        x.ocean();
+        return x;
+    }
 }

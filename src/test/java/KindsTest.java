@@ -18,15 +18,8 @@ final class KindsTest {
         CHECK.due(call, got, want);
     }
 
-    private static OrphanWave withSea() {
-        OrphanWave x = new OrphanWave();
-        Check.type(x, SEA);
-        x.ocean();
-        return x;
-    }
-
     private static void trust() {
-        OrphanWave x = withSea();
+        OrphanWave x = Check.withOcean(SEA);
         x.book(0, 0, 1, 0, 1);
         x.book(0, 0, 1, 0, 1);
         x.book(0, 0, 1, 0, 1);
@@ -70,7 +63,7 @@ final class KindsTest {
     }
 
     private static void images() {
-        OrphanWave x = withSea();
+        OrphanWave x = Check.withOcean(SEA);
         int[] wrong = {-1, 2, Integer.MIN_VALUE, Integer.MAX_VALUE};
         for (int w : wrong) {
             due("keep " + w, x.keep(w), BAD);
@@ -110,7 +103,7 @@ final class KindsTest {
 
     /** What was kept stays as it was kept, whatever comes over it in the living state. */
     private static void overwritten() {
-        OrphanWave x = withSea();
+        OrphanWave x = Check.withOcean(SEA);
         x.keep(1);
         x.book(5, 10, 20, 0, 999);
         x.sheet(1, 10, 20);
@@ -134,9 +127,7 @@ final class KindsTest {
 
     /** Each number of a book and of a known slip comes back, not only how many there are. */
     private static void otherThings() {
-        OrphanWave x = new OrphanWave();
-        Check.type(x, "00000000;09000000;00000000;00000000;00000000;90000000;");
-        x.ocean();
+        OrphanWave x = Check.withOcean("00000000;09000000;00000000;00000000;00000000;90000000;");
         x.keep(1);
         x.book(9, 10, 20, 30, 40);
         x.known(100);
@@ -160,7 +151,7 @@ final class KindsTest {
     }
 
     private static void imagesKeepNothingElse() {
-        OrphanWave x = withSea();
+        OrphanWave x = Check.withOcean(SEA);
         x.sheet(0, 1, 2);
         x.keep(0);
         x.tune(0, 9);
@@ -206,7 +197,7 @@ final class KindsTest {
     }
 
     private static void counts() {
-        OrphanWave x = withSea();
+        OrphanWave x = Check.withOcean(SEA);
         due("what -1", x.count(-1), BAD);
         due("what 8", x.count(8), BAD);
         due("what min", x.count(Integer.MIN_VALUE), BAD);

@@ -19,13 +19,6 @@ final class OceanTest {
         CHECK.due(call, got, want);
     }
 
-    private static OrphanWave withOcean(String text) {
-        OrphanWave x = new OrphanWave();
-        Check.type(x, text);
-        x.ocean();
-        return x;
-    }
-
     private static void aNewObject() {
         OrphanWave x = new OrphanWave();
         for (int what = 0; what <= 7; what++) due("new count " + what, x.count(what), 0);
@@ -86,7 +79,7 @@ final class OceanTest {
     }
 
     private static void oceansByText() {
-        OrphanWave x = withOcean("12345678;90000000;00000000;00000000;00000000;00000002;");
+        OrphanWave x = Check.withOcean("12345678;90000000;00000000;00000000;00000000;00000002;");
         due("sea", x.count(0), 10);
         due("text is empty", x.count(7), 0);
         due("first", x.depth(0), 1);
@@ -125,7 +118,7 @@ final class OceanTest {
     }
 
     private static void fault(String text, int place) {
-        OrphanWave x = withOcean("90000000;00000000;00000000;00000000;00000000;00000000;");
+        OrphanWave x = Check.withOcean("90000000;00000000;00000000;00000000;00000000;00000000;");
         Check.type(x, text);
         due("ocean by '" + text + "'", x.ocean(), -10 - place);
         due("its text stays", x.count(7), text.length());
@@ -150,7 +143,7 @@ final class OceanTest {
     }
 
     private static void times() {
-        OrphanWave x = withOcean("91900000;19900000;00000009;90000000;00000000;00000099;");
+        OrphanWave x = Check.withOcean("91900000;19900000;00000009;90000000;00000000;00000099;");
         due("to itself", x.time(0, 0), 0);
         due("from land to itself", x.time(3, 3), NONE);
         due("to land", x.time(0, 3), NONE);
@@ -178,19 +171,19 @@ final class OceanTest {
     }
 
     private static void detour() {
-        OrphanWave x = withOcean("91900000;90900000;99900000;00000000;00000000;00000000;");
+        OrphanWave x = Check.withOcean("91900000;90900000;99900000;00000000;00000000;00000000;");
         due("the deep way round is sooner", x.time(0, 2), 18);
     }
 
     private static void longestWay() {
-        OrphanWave x = withOcean("11111111;00000001;11111111;10000000;11111111;00000001;");
+        OrphanWave x = Check.withOcean("11111111;00000001;11111111;10000000;11111111;00000001;");
         x.tune(0, 9);
         due("through a winding strait", x.time(0, 47), 26 * 81);
         due("and back", x.time(47, 0), 26 * 81);
     }
 
     private static void heights() {
-        OrphanWave x = withOcean("91239000;00000000;00000000;00000000;00000000;00000000;");
+        OrphanWave x = Check.withOcean("91239000;00000000;00000000;00000000;00000000;00000000;");
         due("where it began", x.height(0, 50, 0), 50);
         due("twice in depth 1, behind rounding", x.height(0, 50, 1), 2 * (5000 / 127));
         due("twice in depth 2", x.height(0, 50, 2), 2 * (5000 / 151));
@@ -214,12 +207,12 @@ final class OceanTest {
     }
 
     private static void towns() {
-        OrphanWave x = withOcean("99950000;00000000;00000000;90000000;90000000;00000000;");
+        OrphanWave x = Check.withOcean("99950000;00000000;00000000;90000000;90000000;00000000;");
         due("from one cell", x.minutes(0, 1 << 3, 0), 9);
         due("towards the town", x.minutes(3, 1, 0), 6 + 15);
         due("the sooner of two", x.minutes(3, 1 | 4, 0), 15);
         due("from itself", x.minutes(3, 8, 0), 0);
-        due("a town of depth 1", withOcean("91000000;" + "00000000;".repeat(5)).minutes(1, 1, 0), 27);
+        due("a town of depth 1", Check.withOcean("91000000;" + "00000000;".repeat(5)).minutes(1, 1, 0), 27);
         due("cell 24 is the first of the second half", x.minutes(32, 0, 1), 3);
         due("cell 32 in the second half", x.minutes(24, 0, 1 << 8), 3);
         due("land in the set", x.minutes(0, 1 << 5, 0), NONE);

@@ -83,6 +83,10 @@ final class SheetsTest {
         OrphanWave twelve = new OrphanWave();
         for (int s = 0; s < 12; s++) twelve.sheet(s % 6, 100 * s, 100 * s + 99);
         due("twelve years", twelve.slips(), 12);
+        due("the first of twelve", twelve.whole(0), 0);
+        due("one of twelve", twelve.whole(1), 1);
+        due("all of twelve", twelve.together(4095, 0), NONE);
+        due("the twelfth", twelve.together(2048, 1), 1199);
     }
 
     private static void joined() {
