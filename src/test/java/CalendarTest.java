@@ -166,11 +166,13 @@ final class CalendarTest {
         String text = TWELVE + ";" + TWELVE + "29;" + TWELVE + "30;";
         int[] months = {12, 13, 13};
         int clock = -60;
-        OrphanWave x = withCalendar(text);
+        OrphanWave x = null;
         for (int y = 0; y < 3; y++) {
             for (int m = 0; m < months[y]; m++) {
                 int days = m == 12 ? (y == 1 ? 29 : 30) : m % 2 == 0 ? 29 : 30;
                 for (int d = 0; d < days; d++) {
+                    // A day's calls are some hundred; an object answers for 512.
+                    x = withCalendar(text);
                     for (int h = 0; h < 12; h++) {
                         due("clock", x.clock(y, m, d, h), clock);
                         tells(x, clock, y, m, d, h);

@@ -7,6 +7,10 @@ final class ModelTest {
     private static final int RUNS = 400, CALLS = 512;
     private static final int[] WILD = {-1, -2, 100, 48, 12, 10000, -10000, 1000, Integer.MIN_VALUE, Integer.MAX_VALUE,
         Integer.MIN_VALUE + 60, Integer.MAX_VALUE - 59, 1 << 24, 1 << 28};
+    /** The numbers at which the document's spans end, with those next to them. */
+    private static final int[] EDGES = {-10000, -9999, -9998, -62, -61, -60, -59, -2, -1, 0, 1, 2, 3, 4, 5, 6, 7, 8, 9,
+        10, 11, 12, 13, 28, 29, 30, 31, 46, 47, 48, 49, 50, 51, 58, 59, 60, 61, 98, 99, 100, 101, 998, 999, 1000, 1001,
+        2000, 4095, 4096, 9998, 9999, 10000, 10001, (1 << 24) - 1, 1 << 24, Integer.MIN_VALUE, Integer.MAX_VALUE};
     private static final String TWELVE = "29 30 29 30 30 29 29 30 29 30 29 30 ";
 
     /** What each call's numbers are for the most part: lows and highs by turns. */
@@ -44,7 +48,9 @@ final class ModelTest {
                 if (random.nextInt(3) > 0) made += ask(x, model, "clear", new int[0], run);
             }
             Object[] row = RANGES[(first + random.nextInt(few)) % RANGES.length];
-            made += ask(x, model, (String) row[0], numbers(random, row), run);
+            int[] numbers = numbers(random, row);
+            if (run % 3 == 2) toEdges(random, numbers);
+            made += ask(x, model, (String) row[0], numbers, run);
         }
     }
 
@@ -58,6 +64,12 @@ final class ModelTest {
         if (row[0].equals("tune") && all[0] == 1) all[1] *= 60;
         if (row[0].equals("tune") && all[0] == 2) all[1] *= 200;
         return all;
+    }
+
+    private static void toEdges(Random random, int[] numbers) {
+        for (int i = 0; i < numbers.length; i++) {
+            if (random.nextInt(3) == 0) numbers[i] = EDGES[random.nextInt(EDGES.length)];
+        }
     }
 
     private static int ask(OrphanWave x, Model model, String name, int[] numbers, int run) throws Exception {

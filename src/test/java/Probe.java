@@ -69,6 +69,10 @@ final class Probe {
         }
         ask("died", 0, 1);
         ask("died", 1, 1);
+        // One ring more, to see how wide the last one was.
+        long rings = ask("ring", 50);
+        ask("like", 0, rings - 2);
+        ask("like", 1, rings - 2);
         ask("living", 0);
     }
 
@@ -89,10 +93,30 @@ final class Probe {
             ask("together", 1 << s, 0);
             ask("together", 1 << s, 1);
         }
-        ask("even");
-        ask("known", 0);
-        ask("known", 9999);
+        knownSlips();
         for (int s = 0; s < 5; s++) ask("story", s, 1);
         for (int marsh = 0; marsh < 6; marsh++) ask("dug", marsh, 1);
+    }
+
+    private void knownSlips() {
+        ask("even");
+        ask("known", 0);
+        boolean more = ask("known", 9999) > 0;
+        ask("tune", 2, 9999);
+        // The greatest gap is that from the last slip to 9999; where none can be added, the
+        // last slip is the first year of NOW that is not ahead of it.
+        long low = 0;
+        long high = 9999;
+        while (low < high) {
+            long middle = (low + high) / 2;
+            boolean reached = more ? ask("next", middle, 0) == 1 && ask("next", middle, 1) == 1 : isBehind(middle);
+            if (reached) high = middle;
+            else low = middle + 1;
+        }
+    }
+
+    private boolean isBehind(long year) {
+        ask("tune", 2, year);
+        return ask("next", 0, 0) >= 0;
     }
 }
