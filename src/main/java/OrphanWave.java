@@ -480,8 +480,9 @@ public final class OrphanWave {
 
         /** HEIGHT in a CELL to which a wave takes so many MINUTES, or NONE. */
         int swell(int minutes, int size, int to) {
-            if (minutes < 0) return NONE;
-            int height = size * fade / (fade + minutes);
+            int fading = fade + minutes;
+            if (minutes < 0 || fading <= 0) return NONE;
+            int height = size * fade / fading;
             return depths[to] <= SHALLOW ? 2 * height : height;
         }
 

@@ -44,11 +44,11 @@ final class DocText {
         return true;
     }
 
-    /** What stands under Terms and the promises, and is not quoted yet. */
+    /** What stands under What it is, Terms and the promises, and is not quoted yet. */
     List<String> left() {
         List<String> all = new ArrayList<>();
         for (String heading : texts.keySet()) {
-            if (!heading.equals("Terms") && !heading.startsWith("Promise ")) continue;
+            if (!heading.matches("What it is|Terms|Promise .*")) continue;
             StringBuilder rest = new StringBuilder();
             String text = texts.get(heading);
             for (int i = 0; i < text.length(); i++) rest.append(quoted.get(heading)[i] ? '|' : text.charAt(i));

@@ -41,21 +41,30 @@ final class EdgesTest {
         EdgesTest test = new EdgesTest(new DocText(root));
         try (Stream<Path> files = Files.list(root.resolve("src/test/edges"))) {
             List<Path> all = files.filter(f -> f.toString().endsWith(".txt")).sorted().collect(Collectors.toList());
-            for (Path file : all) test.file(file);
+            for (Path file : all) test.lines(file.getFileName().toString(), Files.readAllLines(file));
         }
+        test.lines("README.md", example(Files.readAllLines(root.resolve("README.md"))));
         CHECK.due("promises of the document", test.document.promises(), 42);
         for (String words : test.document.left()) CHECK.holds("no test quotes " + words, false);
         CHECK.end("EdgesTest");
     }
 
-    private void file(Path file) throws Exception {
+    /** The lines that README.md shows of such a file. */
+    private static List<String> example(List<String> readme) {
+        int begin = readme.indexOf("```text");
+        CHECK.holds("README.md shows such a file", begin >= 0);
+        List<String> rest = readme.subList(begin + 1, readme.size());
+        return rest.subList(0, rest.indexOf("```"));
+    }
+
+    private void lines(String file, List<String> lines) {
         int number = 0;
-        for (String line : Files.readAllLines(file)) {
+        for (String line : lines) {
             number++;
             try {
                 line(line);
             } catch (RuntimeException e) {
-                CHECK.holds(file.getFileName() + ":" + number + ": " + line + ": " + e, false);
+                CHECK.holds(file + ":" + number + ": " + line + ": " + e, false);
             }
         }
         endSentence();

@@ -16,6 +16,11 @@ final class LanguageTest {
         "assert", "import", "package", "protected", "native", "transient", "volatile", "equals", "hashCode",
         "toString", "Object", "Exception", "Error", "Thread", "Random", "double", "float"};
     private static final String[] FORBIDDEN_SIGNS = {"->", "::", "static {", "Exact(", "@"};
+    /** All of the library that the class uses, a part of what rule 4 leaves. */
+    private static final List<String> LIBRARY = List.of("System.arraycopy", "Math.max", "Math.min", "Integer.compare",
+        "Integer.bitCount");
+    private static final Pattern OF_LIBRARY = Pattern.compile("\\b([A-Z]\\w*[a-z]\\w*\\.\\w+)");
+    private static final Pattern DIVISOR = Pattern.compile("[/%]=?\\s*([A-Za-z0-9_(][\\w.]*)");
     private static final int MOST_PARAMETERS = 7, MOST_LINES = 60, MOST_CLASSES = 12, MOST_FIELDS = 20;
     private static final Check CHECK = new Check();
 
@@ -105,19 +110,43 @@ final class LanguageTest {
             CHECK.holds("no " + word, !Pattern.compile("\\b" + word + "\\b").matcher(code).find());
         }
         for (String sign : FORBIDDEN_SIGNS) CHECK.holds("no " + sign, !code.contains(sign));
-        shortMethods(source);
+        Matcher used = OF_LIBRARY.matcher(code);
+        while (used.find()) CHECK.holds("no " + used.group(1), LIBRARY.contains(used.group(1)));
+        methods(source.replaceAll("//[^\n]*", ""));
     }
 
     /** A method begins with a line that ends in ") {" at a depth of 4 or 8 blanks, and ends at a brace there. */
-    private static void shortMethods(String source) {
+    private static void methods(String source) {
         int begin = -1;
+        int methods = 0;
         String[] lines = source.split("\n");
         for (int i = 0; i < lines.length; i++) {
-            if (lines[i].matches("( {4}| {8})[a-z].*\\) \\{")) begin = i;
+            if (lines[i].matches("( {4}| {8})[a-zA-Z].*\\) \\{")) begin = i;
             if (begin >= 0 && lines[i].matches("( {4}| {8})}")) {
-                CHECK.holds("lines of " + lines[begin].trim(), i - begin < MOST_LINES);
+                method(lines[begin].trim(), String.join("\n", List.of(lines).subList(begin, i + 1)), i - begin);
+                methods++;
                 begin = -1;
             }
+        }
+        CHECK.holds("methods were seen: " + methods, methods > 100);
+    }
+
+    private static void method(String head, String body, int lines) {
+        CHECK.holds("lines of " + head, lines < MOST_LINES);
+        // A constructor has no type ahead of its name; only there are objects made.
+        boolean constructor = head.matches("(public )?[A-Z]\\w*\\(.*");
+        CHECK.holds(head + " makes no object", constructor || !body.contains("new "));
+        divisors(head, body);
+    }
+
+    /** What divides is a constant, or is held against 0 in the same method. */
+    private static void divisors(String head, String body) {
+        Matcher divisor = DIVISOR.matcher(body);
+        while (divisor.find()) {
+            String by = divisor.group(1);
+            boolean constant = by.matches("[0-9]+|[A-Z][A-Z_]*");
+            boolean lookedAt = by.matches("[a-z]\\w*") && body.matches("(?s).*\\b" + by + " (==|!=|<=|>) 0\\b.*");
+            CHECK.holds(head + " looks at the divisor " + by, constant || lookedAt);
         }
     }
 }
